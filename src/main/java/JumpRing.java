@@ -182,33 +182,12 @@ public final class JumpRing {
     }
 
     public int fall(int r, int k) {
-        if (!Rides.mayBe(r, k)) {
-            return RANGE;
-        }
-        Ride its = rides.of(r, k);
-        if (its == null || !its.isOnItsWay()) {
-            return STATE;
-        }
-        if (its.isFull()) {
-            return FULL;
-        }
-        its.add(Ride.FALL);
-        return its.isOnItsWay() ? 1 : 0;
+        return addAnywhere(r, k, Ride.FALL);
     }
 
     public int retire(int r, int k) {
-        if (!Rides.mayBe(r, k)) {
-            return RANGE;
-        }
-        Ride its = rides.of(r, k);
-        if (its == null || !its.isOnItsWay()) {
-            return STATE;
-        }
-        if (its.isFull()) {
-            return FULL;
-        }
-        its.add(Ride.RETIRED);
-        return 1;
+        int added = addAnywhere(r, k, Ride.RETIRED);
+        return added == 0 ? 1 : added;
     }
 
     public int finish(int r, int k, int first, int second) {
@@ -323,6 +302,22 @@ public final class JumpRing {
         faultKind = in.faultKind;
         faultPlace = in.faultPlace;
         return !in.hasFault();
+    }
+
+    /** An EVENT that may be at any FENCE: 1 if the RIDE goes on, 0 if it is OUT; else why not. */
+    private int addAnywhere(int r, int k, int kind) {
+        if (!Rides.mayBe(r, k)) {
+            return RANGE;
+        }
+        Ride its = rides.of(r, k);
+        if (its == null || !its.isOnItsWay()) {
+            return STATE;
+        }
+        if (its.isFull()) {
+            return FULL;
+        }
+        its.add(kind);
+        return its.isOnItsWay() ? 1 : 0;
     }
 
     private Course courseTold(int c) {
