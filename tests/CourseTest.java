@@ -109,6 +109,14 @@ public final class CourseTest {
         t.courseFault("begin 0 0;", 1, 0);
         t.courseFault("starts 0 0;", 1, 0);
         t.courseFault("star 0 0;", 1, 0);
+        t.courseFault("xtart 0 0;", 1, 0);
+        t.courseFault("starx 0 0;", 1, 0);
+        t.courseFault("startz 0 0;", 1, 0);
+        t.courseFault("starta 0 0;", 1, 0);
+        t.courseFault("start`0 0;", 1, 5);
+        t.courseFault("start{0 0;", 1, 5);
+        t.courseFault("start 0/0;", 1, 7);
+        t.courseFault("start 0:0;", 1, 7);
         t.courseFault("Start 0 0;", 1, 0);
         t.courseFault("start 0;" + E, 1, 7);
         t.courseFault("start 0 0 0;" + E, 1, 10);

@@ -12,6 +12,7 @@ public final class PlacesTest {
         oneFirst(t);
         jumpOff(t);
         moving(t);
+        ends(t);
         counts(t);
         t.close();
     }
@@ -143,6 +144,29 @@ public final class PlacesTest {
         Check.ridden(x, 3, 0, 0, 121);
         askedAre(t, "late ones alike", x, 0, 0, 1, 1);
         places(t, "late ones alike", x, 4, 3, 1, 1);
+    }
+
+    /** The first and the last RIDER, each call alone behind a change. */
+    private static void ends(Check t) {
+        JumpRing x = ring("");
+        Check.ridden(x, 29, 0, 0, 100);
+        Check.ridden(x, 0, 0, 0, 110);
+        t.due("asked(0)", x.asked(0), 1);
+        x.back(0, 0);
+        t.due("asked(29) alone", x.asked(29), 0);
+        x.finish(0, 0, 100, -1);
+        t.due("placed(0)", x.placed(0), 0);
+        t.due("placed(1)", x.placed(1), 29);
+        Check.ridden(x, 15, 0, 0, 100);
+        t.due("placed(2)", x.placed(2), 29);
+        t.due("count(5)", x.count(5), 3);
+        x = ring("");
+        Check.ridden(x, 0, 0, 0, 110);
+        Check.ridden(x, 1, 0, 1, 100);
+        Check.ridden(x, 2, 0, 1, 100);
+        t.due("the first RIDER alone has the fewest", x.asked(1), 0);
+        t.due("and is first", x.place(0), 1);
+        t.due("two alike behind it", x.place(2), 2);
     }
 
     private static void counts(Check t) {

@@ -87,7 +87,7 @@ public final class RidersTest {
     private static void lots(Check t) {
         JumpRing x = new JumpRing();
         t.due("none entered, i 0", x.lot(0, 0), Check.NONE);
-        int[] riders = {3, 7, 11, 29};
+        int[] riders = {0, 7, 11, 29};
         for (int r : riders) {
             x.enter(r, true);
         }

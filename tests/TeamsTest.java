@@ -92,6 +92,12 @@ public final class TeamsTest {
         add(x, 11, 0, 0, 100);
         add(x, 12, 0, 0, 100);
         teamIs(t, "all alike", x, 0, 3, 0, 200, 1);
+        x = ring("team 1;");
+        add(x, 0, 5, 1, 101);
+        add(x, 29, 5, 0, 103);
+        teamIs(t, "the first RIDER is dropped", x, 5, 2, 0, 103, 1);
+        x.team(29, Check.NONE);
+        teamIs(t, "the first RIDER alone", x, 5, 1, 4, 101, 1);
     }
 
     private static void howMany(Check t) {

@@ -452,7 +452,9 @@ public final class JumpRing {
         }
 
         void takeWord(String word) {
-            if (!passes(word)) {
+            if (isAtWord(word)) {
+                advance();
+            } else {
                 fail(SYNTAX);
             }
         }
@@ -685,6 +687,7 @@ public final class JumpRing {
             if (!isJoined(f)) {
                 return 0;
             }
+            // Spot f is the FENCE ahead of this one.
             int metres = distanceBehind(f);
             if (metres < by.get(Laws.NEAR) || metres > by.get(Laws.NEAR + 1)) {
                 return 3;
