@@ -517,6 +517,7 @@ public final class JumpRing {
         private final int[] highs = new int[FENCES_MOST];
         private final int[] wides = new int[FENCES_MOST];
         private final int[] obstacleOf = new int[FENCES_MOST];
+        private final int[] firstParts = new int[FENCES_MOST];
         private final boolean[] waters = new boolean[FENCES_MOST];
         int fences = 0;
         int obstacles = 0;
@@ -573,6 +574,7 @@ public final class JumpRing {
                 obstacles++;
             }
             obstacleOf[f] = obstacles - 1;
+            firstParts[f] = joined ? firstPart(f - 1) : f;
             fences = f + 1;
         }
 
@@ -625,17 +627,9 @@ public final class JumpRing {
             return hasFence(f) ? obstacleOf[f] : NONE;
         }
 
-        private boolean isJoined(int f) {
-            return f > 0 && hasFence(f) && obstacleOf[f] == obstacleOf[f - 1];
-        }
-
         /** The first part of the OBSTACLE of a FENCE. */
         int firstPart(int f) {
-            int part = f;
-            while (part > 0 && isJoined(part)) {
-                part--;
-            }
-            return part;
+            return hasFence(f) ? firstParts[f] : f;
         }
 
         int aboutFence(int f, int what) {
@@ -684,7 +678,8 @@ public final class JumpRing {
             if (!waters[f] && wides[f] > by.get(Laws.MOST + 1)) {
                 return 2;
             }
-            if (!isJoined(f)) {
+            int partsAhead = f - firstPart(f);
+            if (partsAhead == 0) {
                 return 0;
             }
             // Spot f is the FENCE ahead of this one.
@@ -692,7 +687,7 @@ public final class JumpRing {
             if (metres < by.get(Laws.NEAR) || metres > by.get(Laws.NEAR + 1)) {
                 return 3;
             }
-            return f - firstPart(f) >= PARTS_MOST ? 4 : 0;
+            return partsAhead >= PARTS_MOST ? 4 : 0;
         }
     }
 
@@ -743,7 +738,7 @@ public final class JumpRing {
             int told = 0;
             in.advance();
             // Each line tells another law, so a text without a FAULT has fewer lines than laws.
-            while (lines < ALL && !in.isAtEnd() && !in.hasFault()) {
+            for (int turn = 0; turn < ALL && !in.isAtEnd() && !in.hasFault(); turn++) {
                 int line = lineAt(in);
                 if (line == NONE) {
                     in.fail(Reader.SYNTAX);
